@@ -613,6 +613,19 @@ public final class PromiseTests {
         c.holds("stored() can be negative", x.stored() < 0);
         c.holds("temperature(3) can be negative", x.temperature(3) < 0);
         c.due("unmet()", x.unmet(), 4500);
+        // 20 of 21 minutes take 20000 from layer 3, to which 250 of the first 500 are left: -1198250 behind 64 minutes.
+        x = with(MIN_ON, 0, FROST_LIMIT, 1, FROST_BELOW, 100, DEFROST_TIME, 20, DEFROST_POWER, 20000, POWER, 500);
+        x.set(SLOPE, 0);
+        x.set(CONDUCTANCE, 0);
+        x.fill(100, 0);
+        x.run(64);
+        c.due("temperature(3) far below 0", x.temperature(3), -11983);
+        c.due("temperature(2) above it", x.temperature(2), 0);
+        c.due("stored() far below 0", x.stored(), -1198000);
+        c.due("defrosts()", x.defrosts(), 3);
+        c.due("lost() far below 0", x.lost(), 0);
+        // From 0 degrees, at 495 percent, 500 need 102; later, at 700 percent, 72.
+        c.due("electricity() far below 0", x.electricity(), 60 * 200 + 102 + 3 * 72);
     }
 
     private void heatAndPercentage() {

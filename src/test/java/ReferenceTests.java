@@ -24,7 +24,28 @@ public final class ReferenceTests {
         for (long seed = 1; seed <= 160; seed++) {
             new ReferenceTests(checks, seed).play();
         }
+        for (int conductance = 0; conductance <= 100; conductance += 50) {
+            new ReferenceTests(checks, 1000 + conductance).coolDown(conductance);
+        }
         checks.end("ReferenceTests");
+    }
+
+    /** As far below 0 as it goes: defrosting in 20 of 21 minutes, until the time is up. */
+    private void coolDown(int conductance) {
+        int[][] settings = {{0, 0}, {7, 500}, {8, 0}, {9, 100}, {10, 1}, {11, 20}, {12, 20000}, {14, conductance}};
+        for (int[] one : settings) {
+            due("set(" + one[0] + ", " + one[1] + ")", x.set(one[0], one[1]), r.set(one[0], one[1]));
+        }
+        due("setOutdoor(3, -300)", x.setOutdoor(3, -300), r.setOutdoor(3, -300));
+        due("fill(100, 0)", x.fill(100, 0), r.fill(100, 0));
+        for (int i = 0; i < 70; i++) {
+            int minutes = i < 69 ? 1440 : 640;
+            due("run(" + minutes + ")", x.run(minutes), r.run(minutes));
+            due("digest()", x.digest(), r.digest());
+            due("costIn(30)", x.costIn(30), r.costIn(30));
+        }
+        checks.holds(name + "it is very cold", x.temperature(3) < -1000000);
+        lookAtAll();
     }
 
     private void play() {
