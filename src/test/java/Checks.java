@@ -1,7 +1,13 @@
 /** Counts what holds, and prints what does not. */
 final class Checks {
+    private String about = "";
     private int held;
     private int wrong;
+
+    /** What the next checks are about; it is printed ahead of what does not hold. */
+    void about(String what) {
+        about = what.isEmpty() ? "" : what + " | ";
+    }
 
     void due(String call, long got, long want) {
         note(got == want, call, String.valueOf(got), String.valueOf(want));
@@ -15,6 +21,10 @@ final class Checks {
         note(held, what, "false", "true");
     }
 
+    int count() {
+        return held + wrong;
+    }
+
     private void note(boolean right, String call, String got, String want) {
         if (right) {
             held++;
@@ -22,7 +32,7 @@ final class Checks {
         }
         wrong++;
         if (wrong <= 40) {
-            System.out.println(call + " answered " + got + ", due is " + want);
+            System.out.println(about + call + " answered " + got + ", due is " + want);
         }
     }
 
