@@ -69,6 +69,11 @@ final class MinuteEdges extends Edges {
             c.due("the demand" + name, x.drawn() + x.unmet() - asked, minute[1]);
             c.due("cost()" + name, x.cost() - cost, (x.electricity() - used) * minute[2]);
         }
+        // One run across the change: 3000 in each of 60 minutes, then 3600 in each of 40.
+        x = with(FROST_BELOW, -50);
+        loaded(x, "0:0;1:-40p;");
+        x.run(100);
+        c.due("the demand of 100 minutes", x.drawn() + x.unmet(), 60 * 3000 + 40 * 3600);
         x = calm();
         x.setTariff(1, 0);
         runTo(x, 59);
@@ -223,6 +228,8 @@ final class MinuteEdges extends Edges {
                     c.due("reason() at HIGHEST", reasonAt(x, highest), 1);
                     c.due("pump()", x.pump(), OFF);
                 }
+                c.due("reason() below HIGHEST in layer 3", layeredOn(HIGHEST, 351), 5);
+                c.due("reason() at HIGHEST in layer 3", layeredOn(HIGHEST, 350), 1);
                 c.due("reason() with 1 off-minute of 1", reasonAt(tooHot(1), 200), 11);
                 HeatPumpPlant x = tooHot(2);
                 c.due("reason() with 1 off-minute of 2", reasonAt(x, 200), 8);
@@ -247,6 +254,8 @@ final class MinuteEdges extends Edges {
                     c.due("reason() at target + " + band, reasonAt(x, 300 + band), 3);
                     c.due("pump()", x.pump(), OFF);
                 }
+                c.due("reason() below target + 13 in layer 0", layeredOn(BAND, 13), 5);
+                c.due("reason() at target + 12 in layer 0", layeredOn(BAND, 12), 3);
                 HeatPumpPlant x = running(MIN_ON, 0);
                 x.setTariff(0, 0);
                 c.due("reason() below the boosted target + 20", reasonAt(x, 349), 5);
@@ -289,6 +298,33 @@ final class MinuteEdges extends Edges {
         });
     }
 
+    /** The reason of a minute that begins ON, with 312, 312, 325 and 350 in the layers and a target of 300. */
+    private static int layeredOn(int setting, int value) {
+        HeatPumpPlant x = layered();
+        x.set(setting, value);
+        x.run(1);
+        return x.reason();
+    }
+
+    private static HeatPumpPlant layered() {
+        HeatPumpPlant x = running(MIN_ON, 0, MIN_OFF, 0, POWER, 10000);
+        x.fill(100, 300);
+        x.run(1);
+        return x;
+    }
+
+    /** The reason of a minute that begins OFF, with 318, 318, 325 and 337 in the layers. */
+    private static int layeredOff(int target, int... settingsAndValues) {
+        HeatPumpPlant x = layered();
+        x.set(HIGHEST, 350);
+        x.run(1);
+        x.set(HIGHEST, 550);
+        x.addPoint(95, target);
+        give(x, settingsAndValues);
+        x.run(1);
+        return x.reason();
+    }
+
     private static HeatPumpPlant tooHot(int leastOff) {
         HeatPumpPlant x = running(MIN_OFF, leastOff);
         x.fill(100, 550);
@@ -304,6 +340,8 @@ final class MinuteEdges extends Edges {
                 c.due("pump()", x.pump(), OFF);
                 c.due("reason() below target - " + band, reasonAt(x, 300 - band - 1), 11);
             }
+            c.due("reason() at target - 20 in layer 0", layeredOff(338), 6);
+            c.due("reason() below target - 20 in layer 0", layeredOff(339), 11);
             HeatPumpPlant x = calm();
             x.setTariff(0, 0);
             c.due("reason() at the boosted target - 20", reasonAt(x, 310), 6);
@@ -314,6 +352,8 @@ final class MinuteEdges extends Edges {
             c.due("reason() at HIGHEST", reasonAt(x, 300), 7);
             c.due("pump()", x.pump(), OFF);
             c.due("reason() below HIGHEST", reasonAt(x, 299), 11);
+            c.due("reason() at HIGHEST in layer 3", layeredOff(339, HIGHEST, 337), 7);
+            c.due("reason() below HIGHEST in layer 3", layeredOff(339, HIGHEST, 338), 11);
             x = calm(HIGHEST, 700, BOOST, 150);
             x.addPoint(95, 600);
             x.setTariff(0, 0);
@@ -343,7 +383,20 @@ final class MinuteEdges extends Edges {
                 x.setTariff(0, tariff);
                 c.due("reason() in tariff " + tariff, reasonAt(x, 200), 11);
             }
-            HeatPumpPlant x = wanting(inThePeak(calm(COMFORT, 500)));
+            HeatPumpPlant x = layered();
+            temperatures(x, 312, 312, 325, 350);
+            x.set(HIGHEST, 350);
+            x.run(1);
+            temperatures(x, 318, 318, 325, 337);
+            give(x, HIGHEST, 550, COMFORT, 318);
+            wanting(inThePeak(x));
+            x.run(1);
+            c.due("reason() at COMFORT in layer 0", x.reason(), 10);
+            x.undo();
+            x.set(COMFORT, 319);
+            x.run(1);
+            c.due("reason() below COMFORT in layer 0", x.reason(), 11);
+            x = wanting(inThePeak(calm(COMFORT, 500)));
             c.due("reason() at the greatest COMFORT", reasonAt(x, 500), 10);
         });
         test("11: in all other cases, the pump is started: it is ON from now on, and its on-minutes are 0.", () -> {
@@ -381,6 +434,16 @@ final class MinuteEdges extends Edges {
             c.due("reason() of minute 61, to which minute 0 is too long ago", x.reason(), 11);
             c.due("startsLastHour()", x.startsLastHour(), most);
         }
+        // Three starts are at least two, too.
+        HeatPumpPlant x = calm(MIN_ON, 0, MIN_OFF, 0);
+        for (int i = 0; i < 3; i++) {
+            reasonAt(x, 200);
+            reasonAt(x, 400);
+        }
+        x.set(STARTS, 2);
+        c.due("reason() with 3 starts of 2", reasonAt(x, 200), 9);
+        x.set(STARTS, 4);
+        c.due("reason() with 3 starts of 4", reasonAt(x, 200), 11);
     }
 
     private void production() {

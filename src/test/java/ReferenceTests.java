@@ -3,6 +3,7 @@ import java.util.Random;
 /** Runs of seeded random calls, each answer compared with that of the reference. */
 public final class ReferenceTests {
     private static final int CALLS = 500;
+    private static final String SHEET_CHARACTERS = "0129-:c;";
 
     private final Checks checks;
     private final Random random;
@@ -27,7 +28,81 @@ public final class ReferenceTests {
         for (int conductance = 0; conductance <= 100; conductance += 50) {
             new ReferenceTests(checks, 1000 + conductance).coolDown(conductance);
         }
+        for (long seed = 2001; seed <= 2040; seed++) {
+            new ReferenceTests(checks, seed).takeAnything();
+        }
+        shortSheets(checks, "", 5);
+        changedSheets(checks);
         checks.end("ReferenceTests");
+    }
+
+    /** Every text of at most so many of the characters that a sheet knows. */
+    private static void shortSheets(Checks checks, String begin, int more) {
+        readBoth(checks, begin);
+        for (int i = 0; more > 0 && i < SHEET_CHARACTERS.length(); i++) {
+            shortSheets(checks, begin + SHEET_CHARACTERS.charAt(i), more - 1);
+        }
+    }
+
+    /** Every change of one character in these sheets: left out, replaced, or with another one ahead of it. */
+    private static void changedSheets(Checks checks) {
+        for (String sheet : new String[] {"12-23:-300c;", "0:0n;9-10:400p;", "1-2:-7;3:45p;20:120;"}) {
+            for (int at = 0; at <= sheet.length(); at++) {
+                String begin = sheet.substring(0, at);
+                String rest = sheet.substring(Math.min(sheet.length(), at + 1));
+                readBoth(checks, begin);
+                readBoth(checks, begin + rest);
+                for (char code = 32; code <= 126; code++) {
+                    readBoth(checks, begin + code + rest);
+                    readBoth(checks, begin + code + sheet.substring(at));
+                }
+            }
+        }
+    }
+
+    private static void readBoth(Checks checks, String sheet) {
+        HeatPumpPlant x = new HeatPumpPlant();
+        ReferencePlant r = new ReferencePlant();
+        for (int i = 0; i < sheet.length(); i++) {
+            x.type(sheet.charAt(i));
+            r.type(sheet.charAt(i));
+        }
+        checks.due("loadWeather() of \"" + sheet + "\"", x.loadWeather(), r.loadWeather());
+        checks.due("digest() behind \"" + sheet + "\"", x.digest(), r.digest());
+    }
+
+    /** Arguments of all sizes, for every call: none may throw, and the answers must be those of the reference. */
+    private void takeAnything() {
+        int[] sizes = {Integer.MIN_VALUE, Integer.MIN_VALUE + 1, -1000000007, -9999, -301, -1, 0, 1, 2, 3, 12, 16, 23, 24,
+            100, 126, 300, 401, 700, 1440, 65536 + 7, 1000000007, Integer.MAX_VALUE - 1, Integer.MAX_VALUE};
+        while (calls < CALLS - 130) {
+            int a = sizes[random.nextInt(sizes.length)];
+            int b = random.nextInt(3) == 0 ? near(-300, 600) : sizes[random.nextInt(sizes.length)];
+            switch (random.nextInt(20)) {
+                case 0: due("set(" + a + ", " + b + ")", x.set(a, b), r.set(a, b)); break;
+                case 1: due("setting(" + a + ")", x.setting(a), r.setting(a)); break;
+                case 2: due("setOutdoor(" + a + ", " + b + ")", x.setOutdoor(a, b), r.setOutdoor(a, b)); break;
+                case 3: due("outdoor(" + a + ")", x.outdoor(a), r.outdoor(a)); break;
+                case 4: due("setTariff(" + a + ", " + b + ")", x.setTariff(a, b), r.setTariff(a, b)); break;
+                case 5: due("tariff(" + a + ")", x.tariff(a), r.tariff(a)); break;
+                case 6: due("setPrice(" + a + ", " + b + ")", x.setPrice(a, b), r.setPrice(a, b)); break;
+                case 7: due("demand(" + a + ")", x.demand(a), r.demand(a)); break;
+                case 8: due("addPoint(" + a + ", " + b + ")", x.addPoint(a, b), r.addPoint(a, b)); break;
+                case 9: due("removePoint(" + a + ")", x.removePoint(a), r.removePoint(a)); break;
+                case 10: due("supply(" + a + ")", x.supply(a), r.supply(a)); break;
+                case 11: due("target(" + a + ")", x.target(a), r.target(a)); break;
+                case 12: due("fill(" + a + ", " + b + ")", x.fill(a, b), r.fill(a, b)); break;
+                case 13: due("temperature(" + a + ")", x.temperature(a), r.temperature(a)); break;
+                case 14: due("run(" + a + ")", x.run(a), r.run(a)); break;
+                case 15: due("minutesWith(" + a + ")", x.minutesWith(a), r.minutesWith(a)); break;
+                case 16: due("costIn(" + a + ")", x.costIn(a), r.costIn(a)); break;
+                case 17: due("bestBoost(" + a + ")", x.bestBoost(a), r.bestBoost(a)); break;
+                case 18: due("type(" + a + ")", x.type(a), r.type(a)); break;
+                default: due("undo()", x.undo(), r.undo());
+            }
+            due("digest()", x.digest(), r.digest());
+        }
+        lookAtAll();
     }
 
     /** As far below 0 as it goes: defrosting in 20 of 21 minutes, until the time is up. */

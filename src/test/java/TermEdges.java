@@ -95,12 +95,15 @@ final class TermEdges extends Edges {
         return x.temperature(3);
     }
 
-    /** In hour h, 15 * h watts are asked for. */
+    /** In hour h, 15 * h watts are asked for: 15 * 276 in a minute of each hour. */
     private void hours() {
         HeatPumpPlant x = made();
         for (int hour = 0; hour < 24; hour++) {
             x.setOutdoor(hour, 200 - hour);
         }
+        x.run(1440);
+        c.due("the demand of a day", x.drawn() + x.unmet(), 60 * 15 * 276);
+        x.undo();
         int[] minutes = {0, 59, 60, 119, 120, 1379, 1380, 1439, 1440, 1499, 1500, 2879, 2880, 99959, 99960, 99999};
         int[] hours = {0, 0, 1, 1, 2, 22, 23, 23, 0, 0, 1, 23, 0, 9, 10, 10};
         for (int i = 0; i < minutes.length; i++) {
