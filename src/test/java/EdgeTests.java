@@ -1,4 +1,5 @@
 import java.io.IOException;
+import java.nio.file.Files;
 import java.nio.file.Path;
 
 /** A test for each sentence of the document, and a look at whether one has been left out. */
@@ -8,7 +9,12 @@ public final class EdgeTests {
 
     public static void main(String[] args) throws IOException {
         Checks checks = new Checks();
-        Document document = new Document(Path.of("../shared/DOC.md"));
+        Path path = Path.of("../shared/DOC.md");
+        checks.holds("there is the document, " + path, Files.isReadable(path));
+        if (!Files.isReadable(path)) {
+            checks.end("EdgeTests");
+        }
+        Document document = new Document(path);
         checks.holds("the document has its sections", document.size() >= 41);
         Edges[] kinds = {new TermEdges(checks, document), new MinuteEdges(checks, document),
             new TextEdges(checks, document), new ChangeEdges(checks, document), new CallEdges(checks, document),
