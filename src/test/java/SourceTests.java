@@ -11,15 +11,6 @@ import java.util.regex.Pattern;
 
 /** The public face, and what can be read from the source of the rules of ../shared/LANGUAGE.md. */
 public final class SourceTests {
-    private static final String FACE = "HeatPumpPlant(); int set(int,int); int setting(int); int setOutdoor(int,int); "
-            + "int outdoor(int); int setTariff(int,int); int tariff(int); int setPrice(int,int); int demand(int); "
-            + "int addPoint(int,int); int removePoint(int); int supply(int); int target(int); int fill(int,int); "
-            + "int temperature(int); long stored(); int run(int); int time(); int pump(); int reason(); "
-            + "int minutesWith(int); int startsLastHour(); int starts(); int defrosts(); int frost(); long produced(); "
-            + "long defrostHeat(); long drawn(); long unmet(); long lost(); long electricity(); long cost(); "
-            + "double meanPercentage(); long costIn(int); int nextSwitch(); int bestBoost(int); int type(int); "
-            + "int clearText(); int loadWeather(); int undo(); long digest(); int BAD; int STATE; int FULL; int NONE; "
-            + "int OFF; int ON; int DEFROSTING";
     private static final String[] FORBIDDEN = {"\\bimport\\b", "\\bpackage\\b", "\\bthrow", "\\bcatch\\b", "\\btry\\b",
         "\\bfinally\\b", "\\bsynchronized\\b", "\\bassert\\b", "->", "::", "\\bvar\\b", "\\binstanceof\\b", "\\bfloat\\b",
         "\\bSystem\\b", "\\bThread\\b", "\\bObject\\b", "\\bequals\\b", "\\bhashCode\\b", "\\btoString\\b", "\"", "\\?>",
@@ -33,7 +24,7 @@ public final class SourceTests {
     public static void main(String[] args) throws Exception {
         String source = Files.readString(Path.of("src/main/java/HeatPumpPlant.java"));
         String code = source.replaceAll("(?s)/\\*.*?\\*/", "").replaceAll("//[^\n]*", "");
-        face();
+        face(Files.readString(Path.of("../shared/DOC.md")));
         insideClasses();
         words(code);
         objectsAreMadeInConstructors(code);
@@ -49,7 +40,37 @@ public final class SourceTests {
         return b.toString();
     }
 
-    private static void face() {
+    /** The members that the document's face tells, as types and names. */
+    private static Set<String> faceOf(String document) {
+        Set<String> members = new TreeSet<>();
+        Matcher block = Pattern.compile("(?s)```java\\npublic final class HeatPumpPlant \\{\\n(.*?)\\n\\}\\n```").matcher(document);
+        String text = block.find() ? block.group(1) : "";
+        Matcher method = Pattern.compile("public ((?:\\w+ )?\\w+\\()(.*?)\\);").matcher(text);
+        while (method.find()) {
+            String types = method.group(2).replaceAll(" \\w+(, )?", "$1").replace(", ", ",");
+            members.add(method.group(1) + types + ")");
+        }
+        Matcher constants = Pattern.compile("public static final int (.*);").matcher(text);
+        while (constants.find()) {
+            for (String constant : constants.group(1).split(", ")) {
+                members.add("int " + constant.replaceFirst(" = .*", ""));
+                constant(constant.split(" = "));
+            }
+        }
+        CHECKS.due("the members of the document's face", members.size(), 1 + 40 + 7);
+        return members;
+    }
+
+    private static void constant(String[] nameAndValue) {
+        try {
+            int value = HeatPumpPlant.class.getField(nameAndValue[0]).getInt(null);
+            CHECKS.due(nameAndValue[0], value, Integer.parseInt(nameAndValue[1]));
+        } catch (ReflectiveOperationException e) {
+            CHECKS.holds("there is the constant " + nameAndValue[0], false);
+        }
+    }
+
+    private static void face(String document) {
         Class<?> face = HeatPumpPlant.class;
         CHECKS.holds("the class is public and final", Modifier.isPublic(face.getModifiers()) && Modifier.isFinal(face.getModifiers()));
         Set<String> found = new TreeSet<>();
@@ -79,13 +100,8 @@ public final class SourceTests {
             }
             CHECKS.holds(field + " is final", Modifier.isFinal(field.getModifiers()));
         }
-        CHECKS.holds("the face is that of the document, not " + found, found.equals(new TreeSet<>(Set.of(FACE.split("; ")))));
-        int[] constants = {HeatPumpPlant.BAD, HeatPumpPlant.STATE, HeatPumpPlant.FULL, HeatPumpPlant.NONE,
-            HeatPumpPlant.OFF, HeatPumpPlant.ON, HeatPumpPlant.DEFROSTING};
-        int[] due = {-1, -2, -3, -9999, 0, 1, 2};
-        for (int i = 0; i < due.length; i++) {
-            CHECKS.due("constant " + i, constants[i], due[i]);
-        }
+        Set<String> due = faceOf(document);
+        CHECKS.holds("the face is that of the document, " + due + ", not " + found, found.equals(due));
     }
 
     private static void insideClasses() {
